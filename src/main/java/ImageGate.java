@@ -188,7 +188,7 @@ public final class ImageGate {
                 return false;
             }
             for (int i = 0; i < n; i++) {
-                row[from + i] = (byte) (value >> 8 * i);
+                row[from + i] = (byte) (value >> (8 * i));
             }
             return true;
         }
@@ -199,7 +199,7 @@ public final class ImageGate {
             }
             int value = 0;
             for (int i = n - 1; i >= 0; i--) {
-                value = value << 8 | row[from + i] & 255;
+                value = (value << 8) | (row[from + i] & 255);
             }
             return value;
         }
@@ -260,7 +260,7 @@ public final class ImageGate {
          */
         int placeBelow(int top, int i) {
             int size = i >= 0 && i < sizes.length ? sizes[i] : 0;
-            return top - size - 1 & -4;
+            return (top - size - 1) & -4;
         }
 
         /** Where in the stack's page the stack pointer points; below 0 if the page has no room. */
@@ -269,7 +269,7 @@ public final class ImageGate {
             for (int i = 0; i < count; i++) {
                 top = placeBelow(top, i);
             }
-            return top - 4 * (count + 1) & -16;
+            return (top - 4 * (count + 1)) & -16;
         }
 
         void copyTo(Page page, int place, int i) {
@@ -403,7 +403,7 @@ public final class ImageGate {
                 return;
             }
             for (int i = 0; i < 4; i++) {
-                bytes[place + i] = (byte) (value >> 8 * i);
+                bytes[place + i] = (byte) (value >> (8 * i));
             }
         }
     }
