@@ -1,6 +1,19 @@
 /** A file in the making: it begins as an image without headers, and tests change it from there. */
 final class ImageFile {
+  /** Where the headers begin if a test does not move them. */
   static final int HEADERS = 52;
+  /** Where in a header its numbers are. */
+  static final int KIND = 0;
+  static final int FROM = 4;
+  static final int ADDRESS = 8;
+  static final int NOTHING = 12;
+  static final int BYTES = 16;
+  static final int SPAN = 20;
+  static final int FLAGS = 24;
+  static final int NOTHING_TOO = 28;
+  /** The most that address + span may be. */
+  static final long HIGHEST = 1073733632L;
+
   private final byte[] bytes;
 
   ImageFile(int length) {
@@ -10,7 +23,17 @@ final class ImageFile {
       bytes[i] = (byte) first[i];
     }
     number(16, 2, 2).number(18, 2, 243).number(20, 4, 1);
-    number(28, 4, HEADERS).number(42, 2, 32);
+    begin(HEADERS).number(42, 2, 32);
+  }
+
+  /** 100 bytes; the last 16 of them, 1 2 3 .., are the part's, at 4096. */
+  static ImageFile onePart() {
+    return new ImageFile(100).headers(1).part(0, 84, 4096, 16, 4096, 4).pattern(84, 16);
+  }
+
+  /** Two pages at 4096 and one right behind them; each has the file's last 4 bytes, 1 2 3 4. */
+  static ImageFile twoParts() {
+    return new ImageFile(120).headers(2).part(0, 116, 4096, 4, 4097, 4).part(1, 116, 12288, 4, 5, 4).pattern(116, 4);
   }
 
   ImageFile number(int k, int n, long v) {
@@ -24,15 +47,23 @@ final class ImageFile {
     return number(24, 4, v);
   }
 
+  ImageFile begin(long v) {
+    return number(28, 4, v);
+  }
+
   ImageFile headers(int n) {
     return number(44, 2, n);
   }
 
+  /** One number of header i. */
+  ImageFile field(int i, int which, long v) {
+    return number(HEADERS + 32 * i + which, 4, v);
+  }
+
   /** Header i of kind 1. */
   ImageFile part(int i, long from, long address, long size, long span, long flags) {
-    int k = HEADERS + 32 * i;
-    return number(k, 4, 1).number(k + 4, 4, from).number(k + 8, 4, address)
-        .number(k + 16, 4, size).number(k + 20, 4, span).number(k + 24, 4, flags);
+    return field(i, KIND, 1).field(i, FROM, from).field(i, ADDRESS, address)
+        .field(i, BYTES, size).field(i, SPAN, span).field(i, FLAGS, flags);
   }
 
   /** Bytes 1, 2, 3 .. 250, 1, 2 .. from k on. */

@@ -1,6 +1,6 @@
 import java.util.Random;
 
-/** Runs of at most 512 calls, the same ones every time, each answer compared with the second reading's. */
+/** Runs of calls, the same ones every time, each answer compared with the second reading's. */
 public final class SecondReadingTest {
   private static final int[] EDGES = {0, 1, 2, 3, 4, 8, 9, 16, 32, 33, 52, 255, 256, 4095, 4096, 4097, 8192, 16384,
     131072, 65536, 1073733632, 1073729536, 1 << 30, -1, -2, -32, -60, -4096, Integer.MAX_VALUE, Integer.MIN_VALUE};
