@@ -8,7 +8,7 @@ public final class TermsStackTest {
         .test("then their addresses in order and a 0, 4 bytes each", TermsStackTest::addresses)
         .test("the rest of it is 0", TermsStackTest::restIsZero)
         .test("if the stack has no room for that, it is refused", TermsStackTest::noRoom)
-        .test("also if there is no room for the arguments alone", TermsStackTest::noRoomForLetters)
+        .test("also if the arguments leave no byte of it for their addresses", TermsStackTest::noRoomForAddresses)
         .test("full to the brim it is not refused", TermsStackTest::brim)
         .in("Term SP")
         .test("the greatest multiple of 16 where the addresses have room", TermsStackTest::multipleOfSixteen)
@@ -107,7 +107,7 @@ public final class TermsStackTest {
     check.refused("32 of 120 letters", with(32, 120), 32, 6);
   }
 
-  private static void noRoomForLetters(Check check) {
+  private static void noRoomForAddresses(Check check) {
     // 32 * 128 are the whole page: the addresses have none of it.
     ImageGate gate = with(32, 127);
     check.refused("32 full ones", gate, 32, 6);
